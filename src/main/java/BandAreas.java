@@ -761,15 +761,19 @@ public final class BandAreas {
             }
             int fewer = 0;
             for (int j = first[band - 1]; j < first[band]; j++) {
-                boolean overlap = sides[2 * j] < sides[2 * k + 1] && sides[2 * k] < sides[2 * j + 1];
-                int lead = leader(j);
-                int own = leader(k);
-                if (overlap && lead != own) {
-                    leadsTo[own] = lead;
+                if (sides[2 * j] < sides[2 * k + 1] && sides[2 * k] < sides[2 * j + 1] && join(j, k)) {
                     fewer++;
                 }
             }
             return fewer;
+        }
+
+        /** Whether they did not hang together before. */
+        private boolean join(int j, int k) {
+            int lead = leader(j);
+            int own = leader(k);
+            leadsTo[own] = lead;
+            return lead != own;
         }
 
         private int leader(int k) {
@@ -978,7 +982,6 @@ public final class BandAreas {
             }
             int word = value;
             sentences[place + 1] = word;
-            sentences[place + 2] = 0;
             int numbers = numbersOf(word);
             for (int i = 0; i < numbers; i++) {
                 readNext();
