@@ -1007,6 +1007,16 @@ public final class AreasTest extends Cases {
         refused(BAD, () -> x.part(1, 9, -61, 0));
     }
 
+    void p08_anotherAreasPartsDoNotMatter() {
+        put(0, 0, 0, 1, 5, 4, 0, 1, 5, 0, 5, 5, 1);
+        put(1, -9, 0, 1, 1, -7, 0, 1, 1, -9, 2, 1, 1);
+        for (int[] cell : new int[][] {{-9, 0}, {-7, 0}, {-9, 2}}) {
+            due("a U", x.part(0, 4, 0, 2), 15);
+            due("a cell", x.part(1, cell[0], cell[1], 2), 1);
+            due("this one", x.hit(2, cell[0], cell[1]), 1);
+        }
+    }
+
     void p08_intoItself() {
         threeParts();
         due(x.part(0, 2, 5, 0), 15);

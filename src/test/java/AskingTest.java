@@ -421,6 +421,21 @@ public final class AskingTest extends Cases {
         }
     }
 
+    void p15_everyCellInAndRoundABoxOf3By3() {
+        for (int left : new int[] {-10, -2, -1, 0, 10}) {
+            x = new Plane();
+            x.box(left, left, 3, 3, 0);
+            for (int k = 0; k < 25; k++) {
+                int dx = k % 5 - 1;
+                int dy = k / 5 - 1;
+                boolean byX = dx >= 0 && dx < 3;
+                boolean byY = dy >= 0 && dy < 3;
+                x.box(left + dx, left + dy, 1, 1, 1);
+                pair("a box from " + left + " and a cell by " + dx + ", " + dy, 0, 0, byX && byY ? 1 : 0, byX || byY ? 1 : 0);
+            }
+        }
+    }
+
     void p15_notBesideFromEdgeToEdge() {
         x.box(-60, 0, 1, 1, 0);
         x.box(59, 0, 1, 1, 1);

@@ -1,6 +1,8 @@
 /** Promise 21 and THE TEXT of the terms: what a text may say, and where its FAULT is. */
 public final class TextTest extends Cases {
     private static final String[] WITH_AREA = {"be", "or", "and", "but", "xor"};
+    private static final String[] SENTENCES = {"be 1", "box 0 0 1 1", "none", "or 1", "and 1", "but 1", "xor 1", "move 1 1", "grow 1",
+        "shrink 1", "flip", "turn"};
 
     public static void main(String[] args) throws Exception {
         run(TextTest.class, 21, 21);
@@ -206,6 +208,14 @@ public final class TextTest extends Cases {
             "0 |an 1;", "0 |ands 1;", "0 |bu 1;", "0 |butt 1;", "0 |xo 1;", "0 |xorx 1;", "0 |mov 1 1;", "0 |moved 1 1;",
             "0 |gro 1;", "0 |grown 1;", "0 |shrin 1;", "0 |shrinks 1;", "0 |shrunk 1;", "0 |fli;", "0 |flipp;", "0 |tur;",
             "0 |turns;", "0 |x;", "0 |z 1;", "0 |abcdefghijklmnopqrstuvwxyz 1;");
+    }
+
+    void p21_wordsWithOneLetterChanged() {
+        for (String sentence : SENTENCES) {
+            for (int k = 0; k < sentence.length() && sentence.charAt(k) >= 'a'; k++) {
+                faults("0 |" + sentence.substring(0, k) + "q" + sentence.substring(k + 1) + ";");
+            }
+        }
     }
 
     void p21_wordsCutShortByTheEnd() {

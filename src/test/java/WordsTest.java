@@ -89,12 +89,10 @@ public final class WordsTest extends Cases {
 
     void p20_allElseStays() {
         stock();
-        int[] before = state();
+        int[] want = state();
+        want[3] = 0;
         x.clear();
-        int[] after = state();
-        for (int k = 0; k < before.length; k++) {
-            due("number " + k, after[k], k == 3 ? 0 : before[k]);
-        }
+        dueState(want);
     }
 
     // ---- 21: does
@@ -320,6 +318,22 @@ public final class WordsTest extends Cases {
         x.clear();
         type("0 none; 1 flip; 2 |;");
         keeps(-318, () -> x.does());
+    }
+
+    void p21_behindAFaultTheTextGoesOn() {
+        type("0 box 0 0 2 1");
+        due("a FAULT", x.does(), -313);
+        due("bytes", x.told(3), 13);
+        type(";");
+        due(x.does(), 1);
+        dueWriting(0, "0.1:0.2;");
+    }
+
+    void p21_behindARefusalTheTextStays() {
+        type("0 box 59 0 2 1;");
+        due(x.does(), NO);
+        due("bytes", x.told(3), 15);
+        due("again", x.does(), NO);
     }
 
     // ---- 22: writing
@@ -602,12 +616,9 @@ public final class WordsTest extends Cases {
     void p25_askingChangesNothing() {
         stock();
         x.told(6);
-        int[] before = state();
+        int[] want = state();
         long first = x.digest();
         due("again", x.digest(), first);
-        int[] after = state();
-        for (int k = 0; k < before.length; k++) {
-            due("number " + k, after[k], before[k]);
-        }
+        dueState(want);
     }
 }

@@ -3,9 +3,9 @@ import java.lang.reflect.InvocationTargetException;
 import java.lang.reflect.Method;
 import java.util.Arrays;
 import java.util.Map;
+import java.util.Set;
 import java.util.TreeMap;
 import java.util.TreeSet;
-import java.util.Set;
 import java.util.function.IntSupplier;
 import java.util.function.IntUnaryOperator;
 
@@ -18,6 +18,8 @@ abstract class Cases {
     static final int LOW = Integer.MIN_VALUE, HIGH = Integer.MAX_VALUE;
     /** A writing up to this length is read sign by sign; a longer one goes by its mark. */
     private static final int SHORT = 60;
+    private static final int MOST_SECONDS = 300;
+    private static volatile String running = "";
 
     Plane x = new Plane();
     private String name = "";
@@ -37,6 +39,7 @@ abstract class Cases {
         for (int promise = firstPromise; promise <= lastPromise; promise++) {
             due.add(promise);
         }
+        stopIfItNeverEnds();
         int failed = 0;
         if (!promises.equals(due)) {
             failed++;
@@ -55,8 +58,24 @@ abstract class Cases {
         }
     }
 
+    /** A call that does not end is a fault as any other; without this the tests would not end either. */
+    private static void stopIfItNeverEnds() {
+        Thread watch = new Thread(() -> {
+            try {
+                Thread.sleep(MOST_SECONDS * 1000L);
+            } catch (InterruptedException e) {
+                return;
+            }
+            System.out.println(running + ": has not ended after " + MOST_SECONDS + " seconds");
+            Runtime.getRuntime().halt(1);
+        });
+        watch.setDaemon(true);
+        watch.start();
+    }
+
     private boolean passes(Method m) throws IllegalAccessException {
         name = m.getName();
+        running = name;
         try {
             m.invoke(this);
         } catch (InvocationTargetException e) {
@@ -126,7 +145,7 @@ abstract class Cases {
         return s;
     }
 
-    private void dueState(int[] want) {
+    void dueState(int[] want) {
         int[] got = state();
         if (!Arrays.equals(got, want)) {
             wrong++;
