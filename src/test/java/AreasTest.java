@@ -55,6 +55,13 @@ public final class AreasTest extends Cases {
         dueWriting(0, "-60.-58:-60.-57;");
     }
 
+    void p01_the512thCallIsAnsweredAsTheOthers() {
+        for (int call = 1; call < 512; call++) {
+            x.round(5);
+        }
+        due("the 512th", x.told(0), 511);
+    }
+
     // ---- 2: box
 
     void p02_itsCells() {
